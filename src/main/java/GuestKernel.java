@@ -642,7 +642,7 @@ public final class GuestKernel {
     private static final class Frames {
         private final int[] ints = new int[FRAMES * FRAME_INTS];
         private final boolean[] isTaken = new boolean[FRAMES];
-        private int free = FRAMES;
+        int free = FRAMES;
 
         int read(int frame, int i) {
             return ints[frame * FRAME_INTS + i];

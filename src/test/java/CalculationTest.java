@@ -37,8 +37,9 @@ public final class CalculationTest {
     }
 
     private static void result(int op, int a, int b, int want) {
-        new Rig("op " + op + " of " + a + " and " + b).set(1, a).set(2, b).op(op, 1, 2, 99).run(3)
-            .register(0, 1, want).register(0, 2, b).register(0, 0, 0).register(0, 3, 0).told(0, Words.PLACE, 3);
+        new Rig("op " + op + " of " + a + " and " + b).set(1, a).set(2, b).op(op, 1, 2, 77).run(3)
+            .register(0, 1, want).register(0, 2, b).register(0, 0, 0).register(0, 3, 0).told(0, Words.PLACE, 3)
+            .told(0, Words.HANDLER, -1);
     }
 
     private static void sameRegister() {
@@ -64,7 +65,7 @@ public final class CalculationTest {
 
     private static void jump(int op, int a, int b, boolean goes) {
         new Rig("jump " + op + " with " + a + ", " + b).set(0, a).set(3, b).op(op, 0, 3, 20).run(3)
-            .told(0, Words.PLACE, goes ? 20 : 3).register(0, 0, a).register(0, 3, b);
+            .told(0, Words.PLACE, goes ? 20 : 3).register(0, 0, a).register(0, 3, b).told(0, Words.HANDLER, -1);
     }
 
     private static void targets() {
