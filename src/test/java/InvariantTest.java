@@ -1,10 +1,11 @@
 import java.util.NoSuchElementException;
 import java.util.Random;
 
-/** What the document says of every state, looked at after every tick of code drawn from fixed seeds. */
+/** What the document says of every state, looked at now and then in runs of code drawn from fixed seeds. */
 public final class InvariantTest {
-    private static final int SEEDS = 1500;
-    private static final int STEPS = 120;
+    private static final int SEEDS = 20_000;
+    /** No more, as a kernel's answers are free after 512 calls. */
+    private static final int LOOKS = 3;
     private static final int ABSENT = -1;
 
     public static void main(String[] args) {
@@ -20,18 +21,27 @@ public final class InvariantTest {
         for (int i = 0; i < 32; i++) {
             write(kernel, random, i);
         }
-        for (int step = 0; step < STEPS; step++) {
-            if (random.nextInt(6) == 0) {
-                write(kernel, random, random.nextInt(32));
-            }
-            String name = "seed " + seed + ", step " + step + ": ";
-            if (!tick(kernel, name)) {
-                return;
-            }
+        for (int look = 0; look < LOOKS; look++) {
+            String name = "seed " + seed + ", look " + look + ": ";
+            goOn(kernel, random.nextInt(50));
+            boolean ticked = tick(kernel, name);
             frames(kernel, name);
             quotas(kernel, name);
             rows(kernel, name);
             ints(kernel, name);
+            if (!ticked) {
+                return;
+            }
+            write(kernel, random, random.nextInt(32));
+        }
+    }
+
+    /** Without a look at the answer: that the run ends when it should is looked at in the tick that follows. */
+    private static void goOn(GuestKernel kernel, int ticks) {
+        try {
+            kernel.run(ticks + 1);
+        } catch (IllegalStateException e) {
+            return;
         }
     }
 

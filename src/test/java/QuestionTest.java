@@ -1,89 +1,71 @@
-/** Promises 4 to 8: the questions' bounds, and which of two wrong things is told. */
+/** Promises 4, 5 and 8: what may be asked, and how each state is told. */
 public final class QuestionTest {
     private static final int[] FAR = {-1, Integer.MIN_VALUE, Integer.MAX_VALUE};
 
     public static void main(String[] args) {
-        badRegister();
-        badTold();
-        badPage();
-        badMemory();
-        badObject();
-        badComesBeforeMissing();
-        allStates();
+        Check.sentence("REGISTER r of GUEST g.", QuestionTest::registerBounds);
+        Check.sentence("Of GUEST g: 0 READY, 1 at hand, 2 BLOCKED, 3 DEAD (what 0)", QuestionTest::states);
+        Check.sentence("PLACE (1), HANDLER (2)", QuestionTest::placeAndHandler);
+        Check.sentence("TRAPS since it came to be (8).", QuestionTest::toldBounds);
+        Check.sentence("Of LOCK k (0 .. 3): its holder, -1 for none (what 0), GUESTS in its ROW (1)",
+            QuestionTest::lockBounds);
+        Check.sentence("of CHANNEL k: ints (2), senders (3), receivers (4).", QuestionTest::channelBounds);
         Check.end();
     }
 
-    private static void badRegister() {
-        GuestKernel k = new GuestKernel();
+    private static void registerBounds() {
+        Rig rig = new Rig("register");
+        rig.register(0, 0, 0).register(0, 3, 0).badRegister(6, 0).badRegister(0, 4).badRegister(5, 4);
         for (int x : FAR) {
-            Check.bad("register(" + x + ", 0)", () -> k.register(x, 0));
-            Check.bad("register(0, " + x + ")", () -> k.register(0, x));
+            rig.badRegister(x, 0).badRegister(0, x);
         }
-        Check.bad("register(6, 0)", () -> k.register(6, 0));
-        Check.bad("register(0, 4)", () -> k.register(0, 4));
-        Check.missing("register(1, 0)", () -> k.register(1, 0));
-        Check.missing("register(5, 3)", () -> k.register(5, 3));
+        rig.missing(1).missing(5);
     }
 
-    private static void badTold() {
-        GuestKernel k = new GuestKernel();
-        for (int x : FAR) {
-            Check.bad("told(" + x + ", 0)", () -> k.told(x, 0));
-            Check.bad("told(0, " + x + ")", () -> k.told(0, x));
-        }
-        Check.bad("told(6, 0)", () -> k.told(6, 0));
-        Check.bad("told(0, 9)", () -> k.told(0, 9));
-        Check.missing("told(1, 0)", () -> k.told(1, 0));
-        Check.missing("told(5, 8)", () -> k.told(5, 8));
-    }
-
-    private static void badPage() {
-        GuestKernel k = new GuestKernel();
-        for (int x : FAR) {
-            Check.bad("page(" + x + ", 0)", () -> k.page(x, 0));
-            Check.bad("page(0, " + x + ")", () -> k.page(0, x));
-        }
-        Check.bad("page(6, 0)", () -> k.page(6, 0));
-        Check.bad("page(0, 4)", () -> k.page(0, 4));
-        Check.missing("page(1, 0)", () -> k.page(1, 0));
-        Check.missing("page(5, 3)", () -> k.page(5, 3));
-    }
-
-    private static void badMemory() {
-        GuestKernel k = new GuestKernel();
-        for (int x : FAR) {
-            Check.bad("memory(" + x + ", 0)", () -> k.memory(x, 0));
-            Check.bad("memory(0, " + x + ")", () -> k.memory(0, x));
-        }
-        Check.bad("memory(12, 0)", () -> k.memory(12, 0));
-        Check.bad("memory(0, 8)", () -> k.memory(0, 8));
-    }
-
-    private static void badObject() {
-        GuestKernel k = new GuestKernel();
-        for (int x : FAR) {
-            Check.bad("object(" + x + ", 0)", () -> k.object(x, 0));
-            Check.bad("object(0, " + x + ")", () -> k.object(0, x));
-        }
-        Check.bad("object(4, 0)", () -> k.object(4, 0));
-        Check.bad("object(4, 2)", () -> k.object(4, 2));
-        Check.bad("object(0, 5)", () -> k.object(0, 5));
-    }
-
-    private static void badComesBeforeMissing() {
-        GuestKernel k = new GuestKernel();
-        Check.bad("register(3, 4) of one that is absent", () -> k.register(3, 4));
-        Check.bad("told(3, 9) of one that is absent", () -> k.told(3, 9));
-        Check.bad("page(3, -1) of one that is absent", () -> k.page(3, -1));
-    }
-
-    private static void allStates() {
+    private static void states() {
         Rig rig = new Rig("all four states");
         rig.op(Words.SPAWN, 1, 0, 8).op(Words.SPAWN, 1, 0, 12).op(Words.SPAWN, 1, 0, 16)
-            .at(8).op(Words.RECEIVE, 0, 0, 0).at(12).op(Words.YIELD, 0, 0, 0).at(16).halt();
-        rig.run(3).told(0, Words.STATE, Words.READY).told(1, Words.STATE, Words.BLOCKED)
-            .told(2, Words.STATE, Words.READY).told(3, Words.STATE, Words.DEAD);
-        rig.at(12).op(Words.ADD_NUMBER, 0, 0, 1).run(1).told(2, Words.STATE, Words.AT_HAND).count(10, 2)
+            .at(8).rest().at(12).yield().at(16).halt();
+        rig.run(3).state(0, Words.READY).state(1, Words.BLOCKED).state(2, Words.READY).state(3, Words.DEAD);
+        rig.at(12).op(Words.ADD_NUMBER, 0, 0, 1).run(1).state(2, Words.AT_HAND).count(10, 2)
             .count(11, -1).count(20, 1).count(21, 0);
+    }
+
+    private static void placeAndHandler() {
+        new Rig("place and handler").op(Words.HANDLE, 0, 0, 31).op(Words.GO_IF_ZERO, 0, 0, 31).told(0, Words.PLACE, 0)
+            .told(0, Words.HANDLER, -1).run(1).told(0, Words.PLACE, 1).told(0, Words.HANDLER, 31).run(1)
+            .told(0, Words.PLACE, 31).told(0, Words.HANDLER, 31);
+    }
+
+    private static void toldBounds() {
+        Rig rig = new Rig("told");
+        rig.told(0, 0, 0).told(0, 8, 0).badTold(6, 0).badTold(0, 9).badTold(5, 9);
+        for (int x : FAR) {
+            rig.badTold(x, 0).badTold(0, x);
+        }
+        rig.missing(1).missing(5);
+    }
+
+    private static void lockBounds() {
+        Rig rig = new Rig("a lock");
+        rig.op(Words.LOCK, 0, 0, 0).op(Words.LOCK, 0, 0, 3).op(Words.LOCK, 0, 0, 3).object(0, Words.HOLDER, -1)
+            .object(3, Words.HOLDER, -1).run(3).object(0, Words.HOLDER, 0).object(0, Words.LOCK_ROW, 0)
+            .object(3, Words.HOLDER, 0).object(3, Words.LOCK_ROW, 1).object(1, Words.HOLDER, -1)
+            .badObject(4, Words.HOLDER).badObject(4, Words.LOCK_ROW);
+        for (int x : FAR) {
+            rig.badObject(x, Words.HOLDER).badObject(x, Words.LOCK_ROW).badObject(0, x);
+        }
+    }
+
+    private static void channelBounds() {
+        Rig rig = new Rig("a channel");
+        rig.op(Words.SEND, 0, 0, 0).op(Words.SEND, 0, 0, 0).op(Words.SEND, 0, 0, 0).object(0, Words.INTS, 0).run(3)
+            .object(0, Words.INTS, 2).object(0, Words.SENDERS, 1).object(0, Words.RECEIVERS, 0)
+            .badObject(4, Words.INTS).badObject(0, 5).badObject(4, 5);
+        for (int x : FAR) {
+            rig.badObject(x, Words.INTS).badObject(x, Words.SENDERS).badObject(x, Words.RECEIVERS).badObject(3, x);
+        }
+        new Rig("another channel").rest().run(1).object(3, Words.RECEIVERS, 1).object(3, Words.SENDERS, 0)
+            .object(3, Words.INTS, 0).object(0, Words.RECEIVERS, 0);
     }
 }
